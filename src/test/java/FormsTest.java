@@ -142,6 +142,8 @@ public final class FormsTest {
         leastIs(4, 1, 0, 0, 0, 0, 0);
         leastIs(3, 1, 0, 3, -3);
         leastIs(9, 5, 0, 18, -18);
+        leastIs(10, 3, 0, 10, -9);
+        leastIs(10, 3, 2, -8, 9);
         leastIs(BitStreams.NONE, 100, 0, 361, -361);
         leastIs(BitStreams.NONE, 1, 0, 4, -4);
         leastIs(3, 1, 1, -3, 3);
