@@ -1,3 +1,6 @@
+import java.util.function.Supplier;
+import java.util.function.ToLongFunction;
+
 /** Gathers answers that are not the ones that are due, and ends a test with exit code 1 if there was one. */
 final class Due {
     private final String test;
@@ -24,12 +27,17 @@ final class Due {
         }
     }
 
-    /** A refused call: its answer, and that all that can be told is what it was before. */
-    void refused(BitStreams x, String call, Call made, long want) {
-        String before = Reading.all(x);
-        is(call, made.answer(), want);
-        String behind = Reading.all(x);
-        holds("that refused " + call + " changes nothing", before.equals(behind));
+    /** A stream's bits, and that ones() goes with them. */
+    void row(String call, BitStreams x, int t, long want) {
+        is("bits behind " + call, Reading.bits(x, t), want);
+        is("ones behind " + call, x.ones(t), Long.bitCount(want));
+    }
+
+    /** A refused call: its answer, and that all that can be told of the object is what it is without that call. */
+    void refused(Supplier<BitStreams> made, String call, ToLongFunction<BitStreams> asking, long want) {
+        is(call, asking.applyAsLong(made.get()), want);
+        holds("that refused " + call + " changes nothing",
+                Reading.all(made, asking).equals(Reading.all(made, x -> 0L)));
     }
 
     void end() {
@@ -37,9 +45,5 @@ final class Due {
         if (wrong != 0) {
             System.exit(1);
         }
-    }
-
-    interface Call {
-        long answer();
     }
 }

@@ -1,32 +1,22 @@
+import java.util.Arrays;
+
 /** Promises 18 to 23: degree, term, part, least, at, make. */
 public final class FormsTest {
     private static final Due due = new Due("forms");
 
     public static void main(String[] args) {
         degree();
-        degreeRefused();
         term();
         part();
-        partRefused();
         least();
         at();
         makeByHand();
         makeAsTold();
-        makeRefused();
         due.end();
     }
 
-    private static BitStreams withForm(int scale, int... numbers) {
-        BitStreams x = new BitStreams();
-        x.degree(numbers.length - 1, scale);
-        for (int i = 0; i < numbers.length; i++) {
-            x.term(i, numbers[i]);
-        }
-        return x;
-    }
-
     private static void degree() {
-        BitStreams x = withForm(3, 11, 12, 13, 14, 15);
+        BitStreams x = Reading.withForm(3, 11, 12, 13, 14, 15);
         due.is("degree", x.count(1), 4);
         due.is("scale", x.count(2), 3);
         due.is("a lower degree", x.degree(2, 1000), 2);
@@ -45,30 +35,13 @@ public final class FormsTest {
         due.is("a(1) is gone", x.term(1, 0), 0);
     }
 
-    private static void degreeRefused() {
-        BitStreams x = withForm(3, 11, 12, 13);
-        for (int n : new int[] {-1, 5, Integer.MIN_VALUE, Integer.MAX_VALUE}) {
-            due.refused(x, "degree " + n, () -> x.degree(n, 1), BitStreams.OUTSIDE);
-        }
-        for (int scale : new int[] {-1, 0, 1001, Integer.MIN_VALUE, Integer.MAX_VALUE}) {
-            due.refused(x, "scale " + scale, () -> x.degree(1, scale), BitStreams.OUTSIDE);
-        }
-    }
-
     private static void term() {
-        BitStreams x = withForm(1, 0, 0, 0);
+        BitStreams x = Reading.withForm(1, 0, 0, 0);
         due.is("a(1)", x.term(1, 1000), 0);
         due.is("a(1)", x.term(1, -1000), 1000);
         due.is("a(1)", x.term(1, 7), -1000);
         due.is("a(0)", x.term(0, 1), 0);
         due.is("a(2)", x.term(2, 1), 0);
-        for (int v : new int[] {-1001, 1001, Integer.MIN_VALUE, Integer.MAX_VALUE}) {
-            due.refused(x, "term 1, " + v, () -> x.term(1, v), BitStreams.OUTSIDE);
-            due.refused(x, "term, all wrong", () -> x.term(3, v), BitStreams.UNKNOWN);
-        }
-        for (int i : new int[] {-1, 3, 4, 5, Integer.MIN_VALUE, Integer.MAX_VALUE}) {
-            due.refused(x, "term " + i, () -> x.term(i, 1), BitStreams.UNKNOWN);
-        }
     }
 
     private static void partIs(BitStreams x, int m, int j, long above, long below) {
@@ -77,43 +50,27 @@ public final class FormsTest {
     }
 
     private static void part() {
-        BitStreams x = withForm(10, 2, 5, -4);
+        BitStreams x = Reading.withForm(10, 2, 5, -4);
         partIs(x, 4, 2, 23, 60);
         partIs(x, 2, 0, 1, 5);
         partIs(x, 2, 1, 9, 20);
         partIs(x, 2, 2, 3, 10);
         partIs(x, 10, 10, 3, 10);
-        partIs(withForm(1, 0), 0, 0, 0, 1);
-        partIs(withForm(1000, 0), 10, 5, 0, 1);
-        partIs(withForm(4, -6), 3, 1, -3, 2);
-        partIs(withForm(1000, 1000, 1000, 1000, 1000, 1000), 10, 10, 5, 1);
-        partIs(withForm(1, -1000, -1000, -1000, -1000, -1000), 10, 10, -5000, 1);
-        partIs(withForm(1000, 0, 0, 0, 0, 1), 10, 4, 1, 210000);
-        partIs(withForm(1000, 0, 0, 0, 0, 1), 10, 3, 0, 1);
-        partIs(withForm(997, 1, 1, 1, 1, 1), 10, 1, 11, 9970);
-        partIs(withForm(997, 1, 1, 1, 1, 1), 10, 9, 4, 997);
-        partIs(withForm(1, 0, 0, 0, 0, 7), 4, 4, 7, 1);
-        partIs(withForm(1, -101), 0, 0, -101, 1);
-    }
-
-    private static void partRefused() {
-        BitStreams x = withForm(10, 2, 5, -4);
-        for (int m : new int[] {-1, 0, 1, 11, Integer.MIN_VALUE, Integer.MAX_VALUE}) {
-            due.refused(x, "part, m " + m, () -> x.part(m, 0, 0), -102);
-            due.refused(x, "part, all wrong", () -> x.part(m, -1, 0), -102);
-        }
-        for (int part : new int[] {-1, 2, Integer.MIN_VALUE, Integer.MAX_VALUE}) {
-            due.refused(x, "part " + part, () -> x.part(2, 0, part), -102);
-            due.refused(x, "part, all wrong", () -> x.part(2, 3, part), -102);
-        }
-        for (int j : new int[] {-1, 5, 11, Integer.MIN_VALUE, Integer.MAX_VALUE}) {
-            due.refused(x, "part, j " + j, () -> x.part(4, j, 0), -101);
-            due.refused(x, "part, j " + j, () -> x.part(4, j, 1), -101);
-        }
+        partIs(Reading.withForm(1, 0), 0, 0, 0, 1);
+        partIs(Reading.withForm(1000, 0), 10, 5, 0, 1);
+        partIs(Reading.withForm(4, -6), 3, 1, -3, 2);
+        partIs(Reading.withForm(1000, 1000, 1000, 1000, 1000, 1000), 10, 10, 5, 1);
+        partIs(Reading.withForm(1, -1000, -1000, -1000, -1000, -1000), 10, 10, -5000, 1);
+        partIs(Reading.withForm(1000, 0, 0, 0, 0, 1), 10, 4, 1, 210000);
+        partIs(Reading.withForm(1000, 0, 0, 0, 0, 1), 10, 3, 0, 1);
+        partIs(Reading.withForm(997, 1, 1, 1, 1, 1), 10, 1, 11, 9970);
+        partIs(Reading.withForm(997, 1, 1, 1, 1, 1), 10, 9, 4, 997);
+        partIs(Reading.withForm(1, 0, 0, 0, 0, 7), 4, 4, 7, 1);
+        partIs(Reading.withForm(1, -101), 0, 0, -101, 1);
     }
 
     private static void leastIs(int want, int scale, int... numbers) {
-        BitStreams x = withForm(scale, numbers);
+        BitStreams x = Reading.withForm(scale, numbers);
         due.is("least", x.least(), want);
         for (int m = numbers.length - 1; m <= 10; m++) {
             boolean all = true;
@@ -151,11 +108,11 @@ public final class FormsTest {
     }
 
     private static void at() {
-        due.is("at 3 of 8", withForm(10, 2, 5, -4).at(3), 331);
-        due.is("rounded down below 0", withForm(3, -1).at(0), -334);
-        due.is("rounded down above 0", withForm(3, 2).at(8), 666);
-        due.is("whole below 0", withForm(4, -1).at(5), -250);
-        BitStreams x = withForm(1, 0, 0, 0, 0, 1);
+        due.is("at 3 of 8", Reading.withForm(10, 2, 5, -4).at(3), 331);
+        due.is("rounded down below 0", Reading.withForm(3, -1).at(0), -334);
+        due.is("rounded down above 0", Reading.withForm(3, 2).at(8), 666);
+        due.is("whole below 0", Reading.withForm(4, -1).at(5), -250);
+        BitStreams x = Reading.withForm(1, 0, 0, 0, 0, 1);
         due.is("at 4 of 8", x.at(4), 62);
         due.is("at 8 of 8", x.at(8), 1000);
         due.is("at 0", x.at(0), 0);
@@ -164,16 +121,12 @@ public final class FormsTest {
         due.is("at 63 of 64", x.at(63), 938);
         x.term(4, -1);
         due.is("at 1 of 64, below 0", x.at(1), -1);
-        x = withForm(1, 1000, 1000, 1000, 1000, 1000);
+        x = Reading.withForm(1, 1000, 1000, 1000, 1000, 1000);
         x.length(64);
         due.is("the greatest", x.at(64), 5000000);
-        x = withForm(1, -1000, -1000, -1000, -1000, -1000);
+        x = Reading.withForm(1, -1000, -1000, -1000, -1000, -1000);
         x.length(64);
         due.is("the least", x.at(64), -5000000);
-        BitStreams y = withForm(10, 2, 5, -4);
-        for (int v : new int[] {-1, 9, 64, Integer.MIN_VALUE, Integer.MAX_VALUE}) {
-            due.refused(y, "at " + v, () -> y.at(v), -1000000000);
-        }
     }
 
     private static void makeIs(BitStreams x, int source, int v, int m, long want) {
@@ -184,42 +137,39 @@ public final class FormsTest {
     }
 
     private static void makeByHand() {
-        makeIs(withForm(1, 0, 1), 0, 3, 1, 0b00000111);
-        makeIs(withForm(1, 0, 1), 3, 3, 1, 0b01000101);
-        makeIs(withForm(2, 1), 0, 3, 0, 0b01010101);
-        makeIs(withForm(2, 1), 2, 8, 10, 0b01010101);
-        makeIs(withForm(1, 0), 0, 8, 4, 0);
-        makeIs(withForm(1, 1), 0, 0, 4, 0xff);
-        makeIs(withForm(1, 0, 0, 1), 0, 3, 2, 0b00000011);
-        makeIs(withForm(1, 0, 0, 1), 0, 3, 3, 0b00000001);
-        makeIs(withForm(8, 3), 0, 3, 0, 0b00010101);
-        makeIs(withForm(1000, 376), 0, 3, 0, 0b01010101);
-        makeIs(withForm(1, 0, 0, 0, 0, 1), 0, 8, 10, 0xff);
+        makeIs(Reading.withForm(1, 0, 1), 0, 3, 1, 0b00000111);
+        makeIs(Reading.withForm(1, 0, 1), 3, 3, 1, 0b01000101);
+        makeIs(Reading.withForm(2, 1), 0, 3, 0, 0b01010101);
+        makeIs(Reading.withForm(2, 1), 2, 8, 10, 0b01010101);
+        makeIs(Reading.withForm(1, 0), 0, 8, 4, 0);
+        makeIs(Reading.withForm(1, 1), 0, 0, 4, 0xff);
+        makeIs(Reading.withForm(1, 0, 0, 1), 0, 3, 2, 0b00000011);
+        makeIs(Reading.withForm(1, 0, 0, 1), 0, 3, 3, 0b00000001);
+        makeIs(Reading.withForm(8, 3), 0, 3, 0, 0b00010101);
+        makeIs(Reading.withForm(1000, 376), 0, 3, 0, 0b01010101);
+        makeIs(Reading.withForm(1, 0, 0, 0, 0, 1), 0, 8, 10, 0xff);
     }
 
     private static void makeAsTold() {
         int[][] forms = {{1, 0, 3, -3}, {10, 2, 5, -4}, {1, 0, 1}, {1, 1, -1}, {7, 2}, {9, 1, 2, -3, 4, 5}};
         for (int n : Reading.LENGTHS) {
             for (int[] form : forms) {
-                BitStreams x = withForm(form[0], java.util.Arrays.copyOfRange(form, 1, form.length));
-                x.length(n);
-                int least = x.least();
+                int least = ofForm(n, form).least();
                 for (int m = least; m <= 10; m++) {
-                    makeFollowsParts(x, n, m, m % 4, (n * m + form[0]) % (n + 1));
+                    makeFollowsParts(ofForm(n, form), n, m, m % 4, (n * m + form[0]) % (n + 1));
                 }
             }
         }
     }
 
+    private static BitStreams ofForm(int n, int[] form) {
+        BitStreams x = Reading.withForm(form[0], Arrays.copyOfRange(form, 1, form.length));
+        x.length(n);
+        return x;
+    }
+
     private static void makeFollowsParts(BitStreams x, int n, int m, int source, int v) {
-        int[] ones = new int[n];
-        for (int shift = 0; shift < m; shift++) {
-            x.source(0, source, v);
-            x.later(0, -shift, 0);
-            for (int i = 0; i < n; i++) {
-                ones[i] += x.bit(0, i);
-            }
-        }
+        int[] ones = onesOfShifted(n, m, source, v);
         int made = x.make(1, source, v, m);
         due.is("ones of make", x.ones(1), made);
         for (int i = 0; i < n; i++) {
@@ -229,25 +179,16 @@ public final class FormsTest {
         }
     }
 
-    private static void makeRefused() {
-        BitStreams x = withForm(1, 0, 3, -3);
-        x.source(2, 0, 5);
-        for (int no : Reading.NO_STREAMS) {
-            due.refused(x, "make, t", () -> x.make(no, 0, 3, 3), BitStreams.UNKNOWN);
-            due.refused(x, "make, all wrong", () -> x.make(no, 4, 9, 11), BitStreams.UNKNOWN);
+    private static int[] onesOfShifted(int n, int m, int source, int v) {
+        int[] ones = new int[n];
+        for (int shift = 0; shift < m; shift++) {
+            BitStreams x = Reading.ofLength(n);
+            x.source(0, source, v);
+            x.later(0, -shift, 0);
+            for (int i = 0; i < n; i++) {
+                ones[i] += x.bit(0, i);
+            }
         }
-        for (int bad : new int[] {-1, 4, Integer.MIN_VALUE, Integer.MAX_VALUE}) {
-            due.refused(x, "make, source", () -> x.make(2, bad, 3, 3), BitStreams.OUTSIDE);
-            due.refused(x, "make, source, and not made", () -> x.make(2, bad, 3, 2), BitStreams.OUTSIDE);
-        }
-        for (int bad : new int[] {-1, 9, Integer.MIN_VALUE, Integer.MAX_VALUE}) {
-            due.refused(x, "make, v", () -> x.make(2, 0, bad, 3), BitStreams.OUTSIDE);
-            due.refused(x, "make, v, and not made", () -> x.make(2, 0, bad, 2), BitStreams.OUTSIDE);
-        }
-        for (int bad : new int[] {-1, 0, 1, 11, Integer.MIN_VALUE, Integer.MAX_VALUE}) {
-            due.refused(x, "make, m " + bad, () -> x.make(2, 0, 3, bad), BitStreams.OUTSIDE);
-        }
-        due.refused(x, "make, not made by 2", () -> x.make(2, 0, 3, 2), BitStreams.STATE);
-        due.holds("that it is made by 3", x.make(2, 0, 3, 3) >= 0);
+        return ones;
     }
 }

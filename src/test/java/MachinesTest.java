@@ -7,10 +7,8 @@ public final class MachinesTest {
     public static void main(String[] args) {
         machineByHand();
         machineAtItsEnds();
-        machineRefused();
         everByHand();
         everAsTold();
-        everRefused();
         due.end();
     }
 
@@ -32,8 +30,7 @@ public final class MachinesTest {
 
     private static void machineAtItsEnds() {
         for (int n : Reading.LENGTHS) {
-            BitStreams x = new BitStreams();
-            x.length(n);
+            BitStreams x = Reading.ofLength(n);
             x.not(1, 1);
             for (int k = 2; k <= 8; k += 2) {
                 due.is("of zeros", x.machine(0, k, 2), 0);
@@ -43,22 +40,6 @@ public final class MachinesTest {
             }
             x.length(8);
             due.is("a length keeps the state", x.state(), 7);
-        }
-    }
-
-    private static void machineRefused() {
-        BitStreams x = new BitStreams();
-        x.source(0, 1, 5);
-        for (int k : new int[] {-2, 0, 1, 3, 5, 7, 9, 10, Integer.MIN_VALUE, Integer.MAX_VALUE}) {
-            due.refused(x, "machine of " + k, () -> x.machine(0, k, 1), BitStreams.OUTSIDE);
-            due.refused(x, "machine, all wrong", () -> x.machine(0, k, 12), BitStreams.UNKNOWN);
-            due.refused(x, "machine, all wrong", () -> x.machine(-1, k, 1), BitStreams.UNKNOWN);
-        }
-        due.is("no machine yet", x.state(), BitStreams.NONE);
-        x.machine(0, 6, 1);
-        for (int no : Reading.NO_STREAMS) {
-            due.refused(x, "machine, a", () -> x.machine(no, 4, 1), BitStreams.UNKNOWN);
-            due.refused(x, "machine, t", () -> x.machine(0, 4, no), BitStreams.UNKNOWN);
         }
     }
 
@@ -85,9 +66,8 @@ public final class MachinesTest {
 
     private static void everAsTold() {
         for (int n : Reading.LENGTHS) {
-            BitStreams x = new BitStreams();
-            x.length(n);
             for (int k = 2; k <= 8; k += 2) {
+                BitStreams x = Reading.ofLength(n);
                 for (int v = 0; v <= n; v++) {
                     BigInteger upper = BigInteger.ZERO;
                     BigInteger all = BigInteger.ZERO;
@@ -101,19 +81,6 @@ public final class MachinesTest {
                     everIs(x, k, v, upper.divide(common).longValueExact(), all.divide(common).longValueExact());
                 }
             }
-        }
-    }
-
-    private static void everRefused() {
-        BitStreams x = new BitStreams();
-        for (int k : new int[] {-2, 0, 1, 3, 7, 9, 10, Integer.MIN_VALUE, Integer.MAX_VALUE}) {
-            due.refused(x, "ever, k " + k, () -> x.ever(k, 3, 0), -102);
-        }
-        for (int v : new int[] {-1, 9, Integer.MIN_VALUE, Integer.MAX_VALUE}) {
-            due.refused(x, "ever, v " + v, () -> x.ever(4, v, 0), -102);
-        }
-        for (int part : new int[] {-1, 2, Integer.MIN_VALUE, Integer.MAX_VALUE}) {
-            due.refused(x, "ever, part " + part, () -> x.ever(4, 3, part), -102);
         }
     }
 }

@@ -7,16 +7,13 @@ public final class TogetherTest {
         together();
         missByHand();
         missAsTold();
-        missRefused();
-        missSixtyTimes();
         where();
         due.end();
     }
 
     private static void both() {
         for (int n : Reading.LENGTHS) {
-            BitStreams x = new BitStreams();
-            x.length(n);
+            BitStreams x = Reading.ofLength(n);
             Reading.write(x, 0, 0b00001111);
             Reading.write(x, 1, 0b00111110);
             due.is("in both", x.both(0, 1, 0), 3);
@@ -25,20 +22,11 @@ public final class TogetherTest {
             due.is("in none", x.both(0, 1, 3), n - 6);
             due.is("a stream and itself", x.both(1, 1, 0), 5);
             due.is("a stream and itself, in none", x.both(1, 1, 3), n - 5);
-            for (int bad : new int[] {-1, 4, Integer.MIN_VALUE, Integer.MAX_VALUE}) {
-                due.refused(x, "sort " + bad, () -> x.both(0, 1, bad), BitStreams.OUTSIDE);
-                due.refused(x, "both, all wrong", () -> x.both(0, 12, bad), BitStreams.UNKNOWN);
-            }
-            for (int no : Reading.NO_STREAMS) {
-                due.refused(x, "both, a", () -> x.both(no, 1, 0), BitStreams.UNKNOWN);
-                due.refused(x, "both, b", () -> x.both(0, no, 0), BitStreams.UNKNOWN);
-            }
         }
     }
 
     private static void togetherIs(int n, long a, long b, int want) {
-        BitStreams x = new BitStreams();
-        x.length(n);
+        BitStreams x = Reading.ofLength(n);
         Reading.write(x, 6, a);
         Reading.write(x, 7, b);
         String call = "together of " + Long.toBinaryString(a) + ", " + Long.toBinaryString(b);
@@ -62,18 +50,12 @@ public final class TogetherTest {
         togetherIs(64, -1L << 32, -1L << 16, 1000);
         togetherIs(64, -1L << 32, -1L >>> 32, -1000);
         togetherIs(64, 0b110, 0b011, 483);
-        BitStreams x = new BitStreams();
-        for (int no : Reading.NO_STREAMS) {
-            due.refused(x, "together, a", () -> x.together(no, 1), -100000);
-            due.refused(x, "together, b", () -> x.together(1, no), -100000);
-        }
     }
 
     /** Two ramps hang together as far as can be: the greatest miss is in the middle. */
     private static void missByHand() {
         for (int n : Reading.LENGTHS) {
-            BitStreams x = new BitStreams();
-            x.length(n);
+            BitStreams x = Reading.ofLength(n);
             int half = n / 2;
             for (int gate = 0; gate < 4; gate++) {
                 due.is("miss of ramps, gate " + gate, x.miss(gate, 0, 0, 0), (gate < 2 ? 1 : 2) * half * half);
@@ -107,16 +89,15 @@ public final class TogetherTest {
         missIs(32, 1, 3 * 4 + 1, 40);
     }
 
-    /** By source, later and gate of the same object, which have tests of their own. */
+    /** By source, later and gate, which have tests of their own. */
     private static void missIs(int n, int gate, int sources, int k) {
-        BitStreams x = new BitStreams();
-        x.length(n);
         int greatest = -1;
         int atV = -1;
         int atW = -1;
         for (int v = 0; v <= n; v++) {
+            BitStreams x = Reading.ofLength(n);
+            x.source(0, sources / 4, v);
             for (int w = 0; w <= n; w++) {
-                x.source(0, sources / 4, v);
                 x.source(1, sources % 4, w);
                 x.later(1, -k, 1);
                 int got = Math.abs(x.gate(gate, 0, 1, 0, 2) * n - dueTimesLength(gate, n, v, w));
@@ -127,6 +108,7 @@ public final class TogetherTest {
                 }
             }
         }
+        BitStreams x = Reading.used(n);
         long kept = x.digest();
         String call = "miss(" + gate + ", " + sources / 4 + ", " + sources % 4 + ", " + k + ") of " + n;
         due.is(call, x.miss(gate, sources / 4, sources % 4, k), greatest);
@@ -135,47 +117,10 @@ public final class TogetherTest {
         due.is(call + ": it changes no more than how often", x.digest(), kept + 1);
     }
 
-    private static void missRefused() {
-        BitStreams x = new BitStreams();
-        x.miss(0, 0, 1, 0);
-        for (int bad : new int[] {-1, 4, 5, 6, Integer.MIN_VALUE, Integer.MAX_VALUE}) {
-            due.refused(x, "miss, gate " + bad, () -> x.miss(bad, 0, 0, 0), BitStreams.OUTSIDE);
-            due.refused(x, "miss, s " + bad, () -> x.miss(0, bad, 0, 0), BitStreams.OUTSIDE);
-            due.refused(x, "miss, u " + bad, () -> x.miss(0, 0, bad, 0), BitStreams.OUTSIDE);
-        }
-        for (int bad : new int[] {-1, 64, Integer.MIN_VALUE, Integer.MAX_VALUE}) {
-            due.refused(x, "miss, k " + bad, () -> x.miss(0, 0, 0, bad), BitStreams.OUTSIDE);
-        }
-    }
-
-    private static void missSixtyTimes() {
-        BitStreams x = new BitStreams();
-        for (int i = 0; i < 59; i++) {
-            x.miss(i % 4, i % 3, 1, i);
-        }
-        due.is("the 60th", x.miss(0, 0, 0, 0), 16);
-        due.is("how often", x.count(3), 60);
-        due.refused(x, "the 61st", () -> x.miss(0, 0, 1, 0), BitStreams.STATE);
-        due.refused(x, "the 61st, and wrong", () -> x.miss(0, 0, 4, 0), BitStreams.OUTSIDE);
-        x.length(64);
-        due.refused(x, "the 61st, other length", () -> x.miss(0, 0, 1, 0), BitStreams.STATE);
-        due.is("where of the 60th", x.where(0), 4);
-    }
-
     private static void where() {
         BitStreams x = new BitStreams();
-        int[] bads = {-1, 2, Integer.MIN_VALUE, Integer.MAX_VALUE};
-        for (int bad : bads) {
-            due.refused(x, "where, none and wrong", () -> x.where(bad), BitStreams.STATE);
-        }
-        due.refused(x, "where, none", () -> x.where(0), BitStreams.STATE);
-        due.refused(x, "where, none", () -> x.where(1), BitStreams.STATE);
-        x.miss(4, 0, 1, 0);
-        due.refused(x, "where, only refused ones", () -> x.where(1), BitStreams.STATE);
+        due.is("where, none", x.where(0), BitStreams.STATE);
         x.miss(0, 0, 1, 0);
-        for (int bad : bads) {
-            due.refused(x, "where, wrong", () -> x.where(bad), BitStreams.OUTSIDE);
-        }
         due.is("where, v", x.where(0), 3);
         due.is("where, w", x.where(1), 5);
         x.miss(0, 0, 0, 0);

@@ -24,9 +24,6 @@ public final class ToldTest {
         for (int what = 0; what < 4; what++) {
             due.is("count(" + what + ")", x.count(what), then[what]);
         }
-        for (int what : new int[] {-1, 4, Integer.MIN_VALUE, Integer.MAX_VALUE}) {
-            due.refused(x, "count(" + what + ")", () -> x.count(what), BitStreams.OUTSIDE);
-        }
     }
 
     private static long digestOf(long... numbers) {
