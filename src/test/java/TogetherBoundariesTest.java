@@ -76,6 +76,7 @@ public final class TogetherBoundariesTest {
     private static void together(int n) {
         togetherOfEmptyAndFull(n);
         togetherOfAllAlikeAndAllUnlike(n);
+        togetherOfOneByOne(n);
         togetherOfNoStream(n);
     }
 
@@ -86,7 +87,7 @@ public final class TogetherBoundariesTest {
         due.is(call + ", changed over", x.together(11, 0), want);
     }
 
-    /** With an empty or a full row p s and q r are both 0, whatever the other row is; so are what would be below. */
+    /** With an empty or a full row p s and q r are both 0, whatever the other row is; so is what would stand below. */
     private static void togetherOfEmptyAndFull(int n) {
         long full = Reading.full(n);
         for (long other : new long[] {0L, 1L, 1L << n - 1, 0b1011L, full ^ 1L, full}) {
@@ -103,6 +104,16 @@ public final class TogetherBoundariesTest {
             togetherIs(n, row, row, 1000);
             togetherIs(n, row, full ^ row, -1000);
         }
+    }
+
+    /** 1 by 1 and -1 by 1: as little stands below as can, beside none at all. */
+    private static void togetherOfOneByOne(int n) {
+        long last = 1L << n - 1;
+        long full = Reading.full(n);
+        togetherIs(n, 1L, full ^ last, 1000);
+        togetherIs(n, last, full ^ 1L, 1000);
+        togetherIs(n, 1L, last, -1000);
+        togetherIs(n, full ^ 1L, full ^ last, -1000);
     }
 
     private static void togetherOfNoStream(int n) {
