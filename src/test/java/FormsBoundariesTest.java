@@ -78,6 +78,7 @@ public final class FormsBoundariesTest {
             termOfTheFirstAndLast(n);
             termBehindTheDegree(n);
             termOfNoNumber(n);
+            termUnknownComesFirst(n);
         }
     }
 
@@ -94,10 +95,15 @@ public final class FormsBoundariesTest {
     private static void termBehindTheDegree(int n) {
         for (int i : Reading.beyond(0, n)) {
             due.refused(() -> ofDegree(n), "term " + i + " of degree " + n, x -> x.term(i, 3), BitStreams.UNKNOWN);
+        }
+        due.refused(() -> ofDegree(n), "term 5 of degree " + n, x -> x.term(5, 3), BitStreams.UNKNOWN);
+    }
+
+    private static void termUnknownComesFirst(int n) {
+        for (int i : Reading.beyond(0, n)) {
             due.refused(() -> ofDegree(n), "term " + i + " and v", x -> x.term(i, 1001), BitStreams.UNKNOWN);
             due.refused(() -> ofDegree(n), "term " + i + " and v", x -> x.term(i, -1001), BitStreams.UNKNOWN);
         }
-        due.refused(() -> ofDegree(n), "term 5 of degree " + n, x -> x.term(5, 3), BitStreams.UNKNOWN);
     }
 
     private static void termOfNoNumber(int n) {
@@ -115,6 +121,7 @@ public final class FormsBoundariesTest {
             partOfNoDegree(n);
             partOfNoPart(n);
             partOfNoNumber(n);
+            partOutsideComesFirst(n);
         }
         partOfZeroAndBelow();
         partOfTheGreatestNumbers();
@@ -142,17 +149,26 @@ public final class FormsBoundariesTest {
         for (int m : Reading.beyond(n, 10)) {
             for (int part : new int[] {0, 1}) {
                 due.refused(() -> ofDegree(n), "part, m " + m, x -> x.part(m, 0, part), -102L);
+            }
+        }
+    }
+
+    private static void partOutsideComesFirst(int n) {
+        for (int m : Reading.beyond(n, 10)) {
+            for (int part : new int[] {0, 1}) {
                 due.refused(() -> ofDegree(n), "part, m " + m + " and j", x -> x.part(m, -1, part), -102L);
                 due.refused(() -> ofDegree(n), "part, m " + m + " and j", x -> x.part(m, 12, part), -102L);
             }
+        }
+        for (int part : Reading.beyond(0, 1)) {
+            due.refused(() -> ofDegree(n), "part, part and j", x -> x.part(n, n + 1, part), -102L);
+            due.refused(() -> ofDegree(n), "part, part and j", x -> x.part(10, -1, part), -102L);
         }
     }
 
     private static void partOfNoPart(int n) {
         for (int part : Reading.beyond(0, 1)) {
             due.refused(() -> ofDegree(n), "part, part " + part, x -> x.part(n, 0, part), -102L);
-            due.refused(() -> ofDegree(n), "part, part and j", x -> x.part(n, n + 1, part), -102L);
-            due.refused(() -> ofDegree(n), "part, part and j", x -> x.part(10, -1, part), -102L);
         }
     }
 
@@ -302,6 +318,8 @@ public final class FormsBoundariesTest {
             makeOfNoValue(n);
             makeOfNoDegree(n);
             makeOfWhatMayNotBeMade(n);
+            makeUnknownComesFirst(n);
+            makeOutsideComesBeforeState(n);
         }
         makeGoesRound();
     }
@@ -359,6 +377,11 @@ public final class FormsBoundariesTest {
     private static void makeOfNoStream(int n) {
         for (int no : Reading.NO_STREAMS) {
             due.refused(() -> hump(n), "make, t " + no, x -> x.make(no, 0, 3, 3), BitStreams.UNKNOWN);
+        }
+    }
+
+    private static void makeUnknownComesFirst(int n) {
+        for (int no : Reading.NO_STREAMS) {
             due.refused(() -> hump(n), "make, t and source", x -> x.make(no, 4, 3, 3), BitStreams.UNKNOWN);
             due.refused(() -> hump(n), "make, t and v", x -> x.make(no, 0, n + 1, 3), BitStreams.UNKNOWN);
             due.refused(() -> hump(n), "make, t and m", x -> x.make(no, 0, 3, 11), BitStreams.UNKNOWN);
@@ -369,13 +392,20 @@ public final class FormsBoundariesTest {
     private static void makeOfNoSource(int n) {
         for (int no : Reading.beyond(0, 3)) {
             due.refused(() -> hump(n), "make, source " + no, x -> x.make(2, no, 3, 3), BitStreams.OUTSIDE);
-            due.refused(() -> hump(n), "make, source, and not by 2", x -> x.make(2, no, 3, 2), BitStreams.OUTSIDE);
         }
     }
 
     private static void makeOfNoValue(int n) {
         for (int no : Reading.beyond(0, n)) {
             due.refused(() -> hump(n), "make, v " + no, x -> x.make(2, 0, no, 3), BitStreams.OUTSIDE);
+        }
+    }
+
+    private static void makeOutsideComesBeforeState(int n) {
+        for (int no : Reading.beyond(0, 3)) {
+            due.refused(() -> hump(n), "make, source, and not by 2", x -> x.make(2, no, 3, 2), BitStreams.OUTSIDE);
+        }
+        for (int no : Reading.beyond(0, n)) {
             due.refused(() -> hump(n), "make, v, and not by 2", x -> x.make(2, 0, no, 2), BitStreams.OUTSIDE);
         }
     }

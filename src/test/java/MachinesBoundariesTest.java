@@ -23,6 +23,7 @@ public final class MachinesBoundariesTest {
         machineBeginsInTheMiddle(n);
         machineOfNoStream(n);
         machineOfNoStates(n);
+        machineUnknownComesFirst(n);
     }
 
     private static void machineOfEmptyAndFull(int n) {
@@ -59,6 +60,11 @@ public final class MachinesBoundariesTest {
         for (int no : Reading.NO_STREAMS) {
             due.refused(() -> Reading.used(n), "machine, a " + no, x -> x.machine(no, 4, 1), BitStreams.UNKNOWN);
             due.refused(() -> Reading.used(n), "machine, t " + no, x -> x.machine(1, 4, no), BitStreams.UNKNOWN);
+        }
+    }
+
+    private static void machineUnknownComesFirst(int n) {
+        for (int no : Reading.NO_STREAMS) {
             due.refused(() -> Reading.used(n), "machine, a and k", x -> x.machine(no, 3, 1), BitStreams.UNKNOWN);
             due.refused(() -> Reading.used(n), "machine, t and k", x -> x.machine(1, 10, no), BitStreams.UNKNOWN);
         }

@@ -7,8 +7,9 @@ public final class StreamsBoundariesTest {
         for (int n : Reading.LENGTHS) {
             length(n);
             source(n);
-            putAndBit(n);
-            onesOfNoStream(n);
+            put(n);
+            bit(n);
+            ones(n);
             gate(n);
             not(n);
             later(n);
@@ -223,13 +224,13 @@ public final class StreamsBoundariesTest {
         due.refused(() -> Reading.used(n), "source, t and v", x -> x.source(-1, 0, n + 1), BitStreams.UNKNOWN);
     }
 
-    // ---- 4 and 5: put, bit
+    // ---- 4: put
 
-    private static void putAndBit(int n) {
+    private static void put(int n) {
         putAtBothEnds(n);
         putWhatIsThere(n);
-        putAndBitOfNoStream(n);
-        putAndBitOfNoBit(n);
+        putOfNoStream(n);
+        putOfNoBit(n);
     }
 
     private static void putAtBothEnds(int n) {
@@ -237,13 +238,10 @@ public final class StreamsBoundariesTest {
             for (int i : new int[] {0, n - 1}) {
                 BitStreams x = Reading.ofLength(n);
                 due.is("put into an empty stream", x.put(t, i, true), 0);
-                due.is("bit(" + t + ", " + i + ")", x.bit(t, i), 1);
                 due.row("put of one", x, t, 1L << i);
-                due.is("bit beside it", x.bit(t, n / 2), 0);
                 x.not(t, t);
                 x.put(t, i, true);
                 due.is("put from a full stream", x.put(t, i, false), 1);
-                due.is("bit(" + t + ", " + i + ")", x.bit(t, i), 0);
                 due.row("put of none", x, t, Reading.full(n) ^ 1L << i);
             }
         }
@@ -258,31 +256,69 @@ public final class StreamsBoundariesTest {
         due.row("it", x, 4, Reading.full(n));
     }
 
-    private static void putAndBitOfNoStream(int n) {
+    private static void putOfNoStream(int n) {
         for (int t : Reading.NO_STREAMS) {
             due.refused(() -> Reading.used(n), "put 1 of stream " + t, x -> x.put(t, 0, true), BitStreams.UNKNOWN);
             due.refused(() -> Reading.used(n), "put 0 of stream " + t, x -> x.put(t, 0, false), BitStreams.UNKNOWN);
+        }
+    }
+
+    private static void putOfNoBit(int n) {
+        for (int i : Reading.beyond(0, n - 1)) {
+            due.refused(() -> Reading.used(n), "put 1 at bit " + i, x -> x.put(3, i, true), BitStreams.UNKNOWN);
+            due.refused(() -> Reading.used(n), "put 0 at bit " + i, x -> x.put(3, i, false), BitStreams.UNKNOWN);
+        }
+    }
+
+    // ---- 5: bit
+
+    private static void bit(int n) {
+        bitAtBothEnds(n);
+        bitOfNoStream(n);
+        bitOfNoBit(n);
+    }
+
+    private static void bitAtBothEnds(int n) {
+        for (int t : new int[] {0, 11}) {
+            BitStreams x = Reading.ofLength(n);
+            x.flip(t, 1L, 1);
+            due.is("bit 0 alone", x.bit(t, 0), 1);
+            due.is("the last bit beside it", x.bit(t, n - 1), 0);
+            x.later(t, -1, t);
+            due.is("the last bit alone", x.bit(t, n - 1), 1);
+            due.is("bit 0 beside it", x.bit(t, 0), 0);
+        }
+    }
+
+    private static void bitOfNoStream(int n) {
+        for (int t : Reading.NO_STREAMS) {
             due.refused(() -> Reading.used(n), "bit of stream " + t, x -> x.bit(t, 0), BitStreams.UNKNOWN);
         }
     }
 
-    private static void putAndBitOfNoBit(int n) {
+    private static void bitOfNoBit(int n) {
         for (int i : Reading.beyond(0, n - 1)) {
-            due.refused(() -> Reading.used(n), "put 1 at bit " + i, x -> x.put(3, i, true), BitStreams.UNKNOWN);
-            due.refused(() -> Reading.used(n), "put 0 at bit " + i, x -> x.put(3, i, false), BitStreams.UNKNOWN);
             due.refused(() -> Reading.used(n), "bit " + i, x -> x.bit(3, i), BitStreams.UNKNOWN);
         }
     }
 
     // ---- 6: ones
 
-    private static void onesOfNoStream(int n) {
+    private static void ones(int n) {
+        onesOfEmptyAndFull(n);
+        onesOfNoStream(n);
+    }
+
+    private static void onesOfEmptyAndFull(int n) {
         for (int t : new int[] {0, 11}) {
             BitStreams x = Reading.ofLength(n);
             due.is("ones of an empty stream", x.ones(t), 0);
             x.not(t, t);
             due.is("ones of a full stream", x.ones(t), n);
         }
+    }
+
+    private static void onesOfNoStream(int n) {
         for (int t : Reading.NO_STREAMS) {
             due.refused(() -> Reading.used(n), "ones(" + t + ")", x -> x.ones(t), BitStreams.UNKNOWN);
         }
@@ -367,14 +403,22 @@ public final class StreamsBoundariesTest {
     // ---- 8: not
 
     private static void not(int n) {
+        notOfEmptyAndFull(n);
+        notOfNoStream(n);
+    }
+
+    private static void notOfEmptyAndFull(int n) {
         BitStreams x = Reading.ofLength(n);
         due.is("not of an empty stream", x.not(0, 11), n);
         due.row("not of an empty stream", x, 11, Reading.full(n));
         due.is("not of a full stream", x.not(11, 0), 0);
         due.row("not of a full stream", x, 0, 0);
+    }
+
+    private static void notOfNoStream(int n) {
         for (int no : Reading.NO_STREAMS) {
-            due.refused(() -> Reading.used(n), "not, a " + no, y -> y.not(no, 1), BitStreams.UNKNOWN);
-            due.refused(() -> Reading.used(n), "not, t " + no, y -> y.not(1, no), BitStreams.UNKNOWN);
+            due.refused(() -> Reading.used(n), "not, a " + no, x -> x.not(no, 1), BitStreams.UNKNOWN);
+            due.refused(() -> Reading.used(n), "not, t " + no, x -> x.not(1, no), BitStreams.UNKNOWN);
         }
     }
 
@@ -386,6 +430,7 @@ public final class StreamsBoundariesTest {
         laterOfEmptyAndFull(n);
         laterOfNoStream(n);
         laterByTooMuch(n);
+        laterUnknownComesFirst(n);
     }
 
     private static void laterIs(int n, long row, int k, long want) {
@@ -430,6 +475,11 @@ public final class StreamsBoundariesTest {
         for (int no : Reading.NO_STREAMS) {
             due.refused(() -> Reading.used(n), "later, a " + no, x -> x.later(no, 1, 2), BitStreams.UNKNOWN);
             due.refused(() -> Reading.used(n), "later, t " + no, x -> x.later(0, 1, no), BitStreams.UNKNOWN);
+        }
+    }
+
+    private static void laterUnknownComesFirst(int n) {
+        for (int no : Reading.NO_STREAMS) {
             due.refused(() -> Reading.used(n), "later, a and k", x -> x.later(no, 65, 2), BitStreams.UNKNOWN);
             due.refused(() -> Reading.used(n), "later, t and k", x -> x.later(0, -65, no), BitStreams.UNKNOWN);
         }
@@ -448,6 +498,7 @@ public final class StreamsBoundariesTest {
         flipLooksAtTheFirstAlone(n);
         flipOfNoStream(n);
         flipOfTooMany(n);
+        flipUnknownComesFirst(n);
     }
 
     private static void flipIs(int n, long row, long bits, int first, long want) {
@@ -484,7 +535,13 @@ public final class StreamsBoundariesTest {
     private static void flipOfNoStream(int n) {
         for (int no : Reading.NO_STREAMS) {
             due.refused(() -> Reading.used(n), "flip of stream " + no, x -> x.flip(no, -1L, 1), BitStreams.UNKNOWN);
+        }
+    }
+
+    private static void flipUnknownComesFirst(int n) {
+        for (int no : Reading.NO_STREAMS) {
             due.refused(() -> Reading.used(n), "flip, t and n", x -> x.flip(no, -1L, n + 1), BitStreams.UNKNOWN);
+            due.refused(() -> Reading.used(n), "flip, t and n", x -> x.flip(no, -1L, -1), BitStreams.UNKNOWN);
         }
     }
 

@@ -29,6 +29,7 @@ public final class TogetherBoundariesTest {
         bothOfALastBit(n);
         bothOfNoStream(n);
         bothOfNoSort(n);
+        bothUnknownComesFirst(n);
     }
 
     private static void bothAre(int n, long a, long b, int... wanted) {
@@ -60,6 +61,11 @@ public final class TogetherBoundariesTest {
                 due.refused(() -> Reading.used(n), "both, a " + no, x -> x.both(no, 1, s), BitStreams.UNKNOWN);
                 due.refused(() -> Reading.used(n), "both, b " + no, x -> x.both(1, no, s), BitStreams.UNKNOWN);
             }
+        }
+    }
+
+    private static void bothUnknownComesFirst(int n) {
+        for (int no : Reading.NO_STREAMS) {
             due.refused(() -> Reading.used(n), "both, a and sort", x -> x.both(no, 1, 4), BitStreams.UNKNOWN);
             due.refused(() -> Reading.used(n), "both, b and sort", x -> x.both(1, no, -1), BitStreams.UNKNOWN);
         }
@@ -153,6 +159,7 @@ public final class TogetherBoundariesTest {
         missOfNoSource(n);
         missOfNoShift(n);
         missSixtyTimes(n);
+        missTheSixtyFirst(n);
         missRefusedIsNotDone(n);
         missOutsideComesBeforeState(n);
     }
@@ -232,6 +239,10 @@ public final class TogetherBoundariesTest {
         due.is("60 times still", x.count(3), 60);
         due.is("where(0) of the 60th", x.where(0), n / 2);
         due.is("where(1) of the 60th", x.where(1), n / 2);
+    }
+
+    /** Also of another LENGTH, and of the same told again. */
+    private static void missTheSixtyFirst(int n) {
         due.refused(() -> missed(n, 60), "the 61st", y -> y.miss(1, 2, 1, 3), BitStreams.STATE);
         for (int next : Reading.LENGTHS) {
             due.refused(() -> {
@@ -275,14 +286,21 @@ public final class TogetherBoundariesTest {
 
     private static void where(int n) {
         whereOfNone(n);
+        whereStateComesFirst(n);
         whereOfRefusedOnes(n);
         whereOfNoSide(n);
     }
 
-    /** STATE is told ahead of OUTSIDE here. */
     private static void whereOfNone(int n) {
-        for (int side : new int[] {0, 1, -1, 2, Integer.MIN_VALUE, Integer.MAX_VALUE}) {
+        for (int side : new int[] {0, 1}) {
             due.refused(() -> Reading.ofLength(n), "where(" + side + ") of none", x -> x.where(side), BitStreams.STATE);
+        }
+    }
+
+    /** STATE is told ahead of OUTSIDE here. */
+    private static void whereStateComesFirst(int n) {
+        for (int no : Reading.beyond(0, 1)) {
+            due.refused(() -> Reading.ofLength(n), "where(" + no + ") of none", x -> x.where(no), BitStreams.STATE);
         }
     }
 
