@@ -11,7 +11,7 @@ import java.util.TreeSet;
 import java.util.regex.Matcher;
 import java.util.regex.Pattern;
 
-/** Rules of LANGUAGE.md that can be looked at from outside: the face, the classes inside, words that are ruled out. */
+/** The document's face, and rules of LANGUAGE.md seen from outside: the classes inside, words that are ruled out. */
 public final class LanguageTest {
     private static final Due due = new Due("language");
     private static final String[] FACE = {
@@ -31,13 +31,14 @@ public final class LanguageTest {
     public static void main(String[] args) throws Exception {
         methods();
         fields();
+        constants();
         constructors();
         classesInside();
         words();
         due.end();
     }
 
-    private static String asWritten(Method method) {
+    static String asWritten(Method method) {
         List<String> types = new ArrayList<>();
         for (Class<?> type : method.getParameterTypes()) {
             types.add(type.getSimpleName());
@@ -83,6 +84,13 @@ public final class LanguageTest {
                 open.equals(new TreeSet<>(Arrays.asList(CONSTANTS))));
     }
 
+    private static void constants() {
+        due.is("NONE", BitStreams.NONE, -1);
+        due.is("UNKNOWN", BitStreams.UNKNOWN, -101);
+        due.is("OUTSIDE", BitStreams.OUTSIDE, -102);
+        due.is("STATE", BitStreams.STATE, -103);
+    }
+
     private static void constructors() {
         Constructor<?>[] all = BitStreams.class.getDeclaredConstructors();
         due.is("constructors", all.length, 1);
@@ -97,8 +105,18 @@ public final class LanguageTest {
             int how = type.getModifiers();
             due.holds("that " + type + " is static", Modifier.isStatic(how));
             due.holds("that " + type + " is not open", !Modifier.isPublic(how) && !Modifier.isProtected(how));
+            due.holds("that " + type + " has at most twenty fields", fieldsBesideConstants(type) <= 20);
         }
         due.holds("that there are at most twelve", BitStreams.class.getDeclaredClasses().length < 12);
+        due.holds("that there are at most twenty fields", fieldsBesideConstants(BitStreams.class) <= 20);
+    }
+
+    private static int fieldsBesideConstants(Class<?> type) {
+        int count = 0;
+        for (Field field : type.getDeclaredFields()) {
+            count += Modifier.isStatic(field.getModifiers()) ? 0 : 1;
+        }
+        return count;
     }
 
     private static void words() throws Exception {

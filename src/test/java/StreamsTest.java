@@ -28,10 +28,6 @@ public final class StreamsTest {
         due.is("new: term", x.term(0, 0), 0);
         due.is("new: state", x.state(), BitStreams.NONE);
         due.is("new: where", x.where(0), BitStreams.STATE);
-        due.is("NONE", BitStreams.NONE, -1);
-        due.is("UNKNOWN", BitStreams.UNKNOWN, -101);
-        due.is("OUTSIDE", BitStreams.OUTSIDE, -102);
-        due.is("STATE", BitStreams.STATE, -103);
     }
 
     private static void length() {
